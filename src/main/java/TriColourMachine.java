@@ -10,6 +10,8 @@ import java.util.NoSuchElementException;
 public final class TriColourMachine {
     private static final long NIL = -1000000000000L;
     private static final long FIRST_OBJECT = 10000000000L;
+    private static final long LEAST_NUMBER = -2147483648L;
+    private static final long MOST_NUMBER = 2147483647L;
 
     private static final int GLOBALS = 6;
     private static final int OBJECTS = 16;
@@ -190,7 +192,9 @@ public final class TriColourMachine {
     public long inside(int n, int i, boolean value)
             throws IllegalArgumentException, NoSuchElementException {
         checkRange(n, 0, OBJECTS - 1);
-        checkRange(i, 0, Integer.MAX_VALUE);
+        if (i < 0) {
+            throw new IllegalArgumentException();
+        }
         Cell cell = heap.cells[n];
         if (i >= cell.rows(value)) {
             throw new NoSuchElementException();
@@ -236,7 +240,7 @@ public final class TriColourMachine {
     }
 
     private static boolean isNumber(long v) {
-        return v >= Integer.MIN_VALUE && v <= Integer.MAX_VALUE;
+        return v >= LEAST_NUMBER && v <= MOST_NUMBER;
     }
 
     private static int numberOf(long object) {

@@ -35,6 +35,8 @@ public final class InstructionsTest {
         check.same("3, modulo 6 below 0", 5, outcome(op(3, 3, 0, -5), op(RETURN, 3, 0, 0)));
         check.same("registers modulo 4", 5, outcome(op(2, 7, 4, 0), op(RETURN, 11, 0, 0)));
         check.same("registers below 0", 5, outcome(op(2, -1, -4, 0), op(RETURN, 3, 0, 0)));
+        check.same("b below 0", 5, outcome(op(2, 1, 0, 0), op(0, 0, 0, 0), op(2, 2, -3, 0), op(RETURN, 2, 0, 0)));
+        check.same("c below 0", 10, outcome(op(2, 1, 0, 0), op(8, 2, 0, -3), op(RETURN, 2, 0, 0)));
         check.same("the least number: register 0", 5, outcome(op(RETURN, Told.MIN, 0, 0)));
         check.same("the most: register 3", Told.NIL, outcome(op(RETURN, Told.MAX, 0, 0)));
         TriColourMachine m = Told.machine(op(4, 0, 0, 5), op(4, 0, 0, -2), op(4, 0, 0, 9), op(RETURN, 1, 0, 0));
@@ -129,6 +131,9 @@ public final class InstructionsTest {
         check.same("20: none", Told.NIL, m.resume(0, 3, 3));
         m.number(3, 11);
         check.throwsA("20: not there", Check.WRONG, () -> m.resume(0, 3, 3));
+        check.same("20 of 0, which is a key like others", 8, outcome(op(5, 1, 0, 0), op(1, 2, 0, 8),
+            op(7, 1, 2, 2), op(1, 3, 0, 0), op(7, 1, 3, 3), op(0, 0, 0, 0), op(7, 1, 2, 0), op(7, 1, 2, 2),
+            op(20, 0, 1, 3), op(RETURN, 0, 0, 0)));
         check.same("20 of an empty one", Told.NIL, outcome(op(5, 1, 0, 0), op(1, 3, 0, 9), op(20, 3, 1, 2),
             op(RETURN, 3, 0, 0)));
         TriColourMachine meta = Told.machine(op(20, 3, 0, 1), op(RETURN, 3, 0, 0));
