@@ -1,5 +1,11 @@
+import java.io.IOException;
+import java.nio.file.Files;
+import java.nio.file.Path;
+
 /** Counts what a test asks, prints every answer that is not due, and ends with 1 if there was one. */
 final class Check {
+    private static final Path DOCUMENT = Path.of("..", "shared", "DOC.md");
+
     /** A call that should throw, so that its answer does not matter. */
     interface Deed {
         void act();
@@ -11,11 +17,47 @@ final class Check {
     static final Class<?> ABSENT = java.util.NoSuchElementException.class;
 
     private final String name;
+    private String words = "";
+    private String document = "";
+    private boolean documentIsThere = false;
+    private int sentences = 0;
+    private int askedBefore = 0;
     private int asked = 0;
     private int faults = 0;
 
     Check(String name) {
         this.name = name;
+    }
+
+    /** What is asked from here on is asked for these words, which must stand in the document. */
+    void sentence(String next) {
+        endSentence();
+        words = next;
+        sentences++;
+        askedBefore = asked;
+        readDocument();
+        if (documentIsThere && !document.contains(next)) {
+            fault("the document does not say so");
+        }
+    }
+
+    private void endSentence() {
+        if (sentences > 0 && asked == askedBefore) {
+            fault("nothing was asked for it");
+        }
+    }
+
+    /** Without its folds and its marks of code blocks; where it is not, only the words go unchecked. */
+    private void readDocument() {
+        if (sentences > 1) {
+            return;
+        }
+        try {
+            document = Files.readString(DOCUMENT).replaceAll("```\\w*", " ").replaceAll("\\s+", " ");
+            documentIsThere = true;
+        } catch (IOException e) {
+            System.out.println(name + ": no document at " + DOCUMENT + ", its words are not checked");
+        }
     }
 
     void same(String what, long want, long got) {
@@ -44,8 +86,17 @@ final class Check {
         }
     }
 
+    /** The call throws, and all that can be seen is then as it was before. */
+    void refused(String what, Class<?> want, TriColourMachine m, Deed deed) {
+        String before = Told.all(m);
+        throwsA(what, want, deed);
+        holds(what + " changes nothing", before.equals(Told.all(m)));
+    }
+
     void end() {
-        System.out.println(name + ": " + asked + " asked, " + faults + " not as due");
+        endSentence();
+        String of = sentences > 0 ? " for " + sentences + " sentences" : "";
+        System.out.println(name + ": " + asked + " asked" + of + ", " + faults + " not as due");
         if (faults > 0 || asked == 0) {
             System.exit(1);
         }
@@ -53,6 +104,6 @@ final class Check {
 
     private void fault(String text) {
         faults++;
-        System.out.println(name + ": " + text);
+        System.out.println(name + ": " + (sentences > 0 ? "\"" + words + "\": " : "") + text);
     }
 }

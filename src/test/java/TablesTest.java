@@ -174,24 +174,8 @@ public final class TablesTest {
         check.same("is not put here", 1, m.object(0, 2));
     }
 
-    /** TABLES 0, 2, 4, .. in a chain by the METAS 1, 3, .., each link both for GETTING and SETTING. */
-    private static TriColourMachine chain(int tables) {
-        TriColourMachine m = new TriColourMachine();
-        m.make(0, -1);
-        m.move(1, 0);
-        for (int i = 1; i < tables; i++) {
-            m.make(2, -1);
-            m.make(3, -1);
-            m.meta(1, 2);
-            Told.link(m, 2, 0, 3);
-            Told.link(m, 2, 1, 3);
-            m.move(1, 3);
-        }
-        return m;
-    }
-
     private static void depth(Check check) {
-        TriColourMachine five = chain(5);
+        TriColourMachine five = Told.chain(5);
         Told.put(five, 1, 7, 70);
         five.number(4, 7);
         check.same("five tables", 70, five.get(0, 4, 3));
@@ -199,7 +183,7 @@ public final class TablesTest {
         check.same("five without it", Told.NIL, five.get(0, 4, 3));
         Told.put(five, 0, 9, 90);
         check.same("set in the fifth", 9, five.inside(8, 1, false));
-        TriColourMachine six = chain(6);
+        TriColourMachine six = Told.chain(6);
         Told.put(six, 1, 7, 70);
         six.number(4, 7);
         six.number(3, 33);
@@ -234,7 +218,7 @@ public final class TablesTest {
         check.throwsA("setting nil", Check.WRONG, () -> m.set(0, 4, 5));
         check.throwsA("setting nil to nil", Check.WRONG, () -> m.set(0, 4, 4));
         check.same("nothing is set", 0, m.object(0, 2) + m.object(2, 2));
-        TriColourMachine six = chain(6);
+        TriColourMachine six = Told.chain(6);
         six.move(4, -1);
         check.same("nil at once, however deep", Told.NIL, six.get(0, 4, 3));
         check.throwsA("wrong at once", Check.WRONG, () -> six.set(0, 4, 3));

@@ -42,4 +42,70 @@ final class Told {
         m.number(5, key);
         m.set(t, 5, v);
     }
+
+    /**
+     * TABLES 0, 2, 4, .. in a chain by the METAS 1, 3, .., each link both for GETTING and SETTING.
+     * GLOBAL 0 is the first of them, GLOBAL 1 the last.
+     */
+    static TriColourMachine chain(int tables) {
+        TriColourMachine m = new TriColourMachine();
+        m.make(0, -1);
+        m.move(1, 0);
+        for (int i = 1; i < tables; i++) {
+            m.make(2, -1);
+            m.make(3, -1);
+            m.meta(1, 2);
+            link(m, 2, 0, 3);
+            link(m, 2, 1, 3);
+            m.move(1, 3);
+        }
+        return m;
+    }
+
+    /** A machine with all 16 OBJECTS there, TABLES, each the META of the next, and GLOBAL 0 the last. */
+    static TriColourMachine fullChain() {
+        TriColourMachine m = new TriColourMachine();
+        m.make(0, -1);
+        for (int n = 1; n < 16; n++) {
+            m.make(1, -1);
+            m.meta(1, 0);
+            m.move(0, 1);
+        }
+        m.move(1, -1);
+        return m;
+    }
+
+    /** All that can be seen of the machine. */
+    static String all(TriColourMachine m) {
+        StringBuilder text = new StringBuilder();
+        for (int what = 0; what <= 8; what++) {
+            text.append(m.count(what)).append(' ');
+        }
+        for (int g = 0; g < 6; g++) {
+            text.append(m.global(g)).append(' ');
+        }
+        for (int n = 0; n < 16; n++) {
+            text.append('\n').append(n).append(": ").append(m.object(n, 0));
+            if (m.object(n, 0) > 0) {
+                text.append(oneObject(m, n));
+            }
+        }
+        return text.toString();
+    }
+
+    private static String oneObject(TriColourMachine m, int n) {
+        StringBuilder text = new StringBuilder();
+        for (int what = 1; what <= 3; what++) {
+            text.append(' ').append(m.object(n, what));
+        }
+        boolean table = m.object(n, 0) == 1;
+        int rows = table ? m.object(n, 2) : 4;
+        for (int i = 0; i < rows; i++) {
+            text.append(' ').append(m.inside(n, i, false));
+            if (table) {
+                text.append(' ').append(m.inside(n, i, true));
+            }
+        }
+        return text.toString();
+    }
 }
