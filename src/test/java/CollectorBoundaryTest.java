@@ -8,12 +8,15 @@ public final class CollectorBoundaryTest {
         noneInACall(check);
         restsAllWhite(check);
         rootsOfACall(check);
+        usedAgain(check);
         noRoots(check);
         rootsMadeGray(check);
         leastOfTheGray(check);
         refersTo(check);
         refersToItself(check);
         whiteRootsAtTheEnd(check);
+        activeOnesAtTheEnd(check);
+        globalsAtTheEndOfACall(check);
         sweepsEach(check);
         madeWhileMarking(check);
         madeWhileSweeping(check);
@@ -168,6 +171,39 @@ public final class CollectorBoundaryTest {
         check.same("after the call they are no roots, and all go", 0, m.count(0));
     }
 
+    private static void usedAgain(Check check) {
+        check.sentence("A COROUTINE has a FUNCTION 0 .. 3, REGISTERS 0 .. 3 (NIL at first), a PLACE (0 at first), "
+            + "and is FRESH, YIELDED, ACTIVE or DEAD.");
+        TriColourMachine m = Told.machine(op(1, 1, 0, 1), op(1, 2, 0, 2), op(1, 3, 0, 3), op(18, 3, 0, 0));
+        m.code(1, 0, 18, 1, 0, 0);
+        m.number(1, 5);
+        m.make(2, -1);
+        m.meta(2, 2);
+        Told.put(m, 2, 1, 1);
+        m.resume(0, 1, 3);
+        m.move(0, -1);
+        m.move(2, -1);
+        check.same("both go", 2, m.full());
+        check.same("the coroutine's number", 0, m.make(0, 1));
+        check.same("the table's number", 1, m.make(2, -1));
+        check.same("fresh", 0, m.object(0, 3));
+        check.same("at 0", 0, m.object(0, 2));
+        for (int i = 0; i < 4; i++) {
+            check.same("register " + i, Told.NIL, m.inside(0, i, false));
+        }
+        check.same("no pairs", 0, m.object(1, 2));
+        check.same("no meta", -1, m.object(1, 3));
+        check.same("of its own function", Told.NIL, m.resume(0, 1, 3));
+        check.same("into 0, not where the old one yielded", 5, m.inside(0, 0, false));
+        // And a number that was a TABLE's becomes a COROUTINE's.
+        m.move(2, -1);
+        m.full();
+        check.same("the table's number", 1, m.make(2, 0));
+        check.same("a coroutine", 2, m.object(1, 0));
+        check.same("at 0", 0, m.object(1, 2));
+        check.same("fresh", 0, m.object(1, 3));
+    }
+
     private static void noRoots(Check check) {
         check.sentence("RESTING: all ROOTS are made GRAY, and it MARKS.");
         TriColourMachine m = new TriColourMachine();
@@ -305,6 +341,52 @@ public final class CollectorBoundaryTest {
         check.same("and on", 1, m.count(1));
         m.collect(1);
         check.same("then it sweeps", 2, m.count(1));
+    }
+
+    /**
+     * It MARKS after one UNIT: TABLE 0 (GLOBAL 0) is GRAY, OBJECT 1 (GLOBAL 1) WHITE, and there is
+     * no free number, for OBJECTS 2 .. 15 have been made BLACK since (the last is GLOBAL 3).
+     */
+    private static TriColourMachine whiteRoot(int function) {
+        TriColourMachine m = new TriColourMachine();
+        m.make(0, -1);
+        m.make(1, function);
+        Told.link(m, 0, 9, 1);
+        m.move(1, -1);
+        m.collect(1);
+        m.get(0, 5, 1);
+        m.set(0, 5, 3);
+        for (int n = 2; n < 16; n++) {
+            m.make(3, 0);
+        }
+        return m;
+    }
+
+    private static void activeOnesAtTheEnd(Check check) {
+        check.sentence("without: all WHITE ROOTS are made GRAY; if there were none, it SWEEPS from 0 on, "
+            + "else it MARKS on.");
+        // The COROUTINE takes itself out of GLOBAL 1, so that it is a ROOT just by being ACTIVE.
+        TriColourMachine m = whiteRoot(0);
+        m.move(3, -1);
+        Told.program(m, 0, op(4, 1, 0, 1), op(5, 2, 0, 0), op(19, 2, 0, 0));
+        check.same("it is white", 0, m.object(1, 1));
+        check.same("the new table", Told.object(2), m.resume(1, 4, 4));
+        check.same("it was marked before the sweep", (1 + 1 + 1 + 1 + 1 + 16) + (1 + 2 + 1 + 16), m.count(7));
+        check.same("it is there", 2, m.object(1, 0));
+        check.same("the others went", 14, m.count(4));
+    }
+
+    private static void globalsAtTheEndOfACall(Check check) {
+        check.sentence("without: all WHITE ROOTS are made GRAY; if there were none, it SWEEPS from 0 on, "
+            + "else it MARKS on.");
+        // OBJECT 1 is the only WHITE ROOT, while COROUTINE 15 is an ACTIVE one that is not WHITE.
+        TriColourMachine m = whiteRoot(-1);
+        Told.program(m, 0, op(5, 2, 0, 0), op(19, 2, 0, 0));
+        check.same("it is white", 0, m.object(1, 1));
+        check.same("the new table", Told.object(2), m.resume(3, 4, 4));
+        check.same("it was marked before the sweep", (1 + 2 + 1 + 1 + 1 + 16) + (1 + 3 + 1 + 16), m.count(7));
+        check.same("it is there", 1, m.object(1, 0));
+        check.same("the others went", 13, m.count(4));
     }
 
     private static void sweepsEach(Check check) {
