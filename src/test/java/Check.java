@@ -1,6 +1,8 @@
 import java.io.IOException;
 import java.nio.file.Files;
 import java.nio.file.Path;
+import java.util.HashSet;
+import java.util.Set;
 
 /** Counts what a test asks, prints every answer that is not due, and ends with 1 if there was one. */
 final class Check {
@@ -20,7 +22,7 @@ final class Check {
     private String words = "";
     private String document = "";
     private boolean documentIsThere = false;
-    private int sentences = 0;
+    private final Set<String> sentences = new HashSet<>();
     private int askedBefore = 0;
     private int asked = 0;
     private int faults = 0;
@@ -33,25 +35,24 @@ final class Check {
     void sentence(String next) {
         endSentence();
         words = next;
-        sentences++;
         askedBefore = asked;
-        readDocument();
+        if (sentences.isEmpty()) {
+            readDocument();
+        }
+        sentences.add(next);
         if (documentIsThere && !document.contains(next)) {
             fault("the document does not say so");
         }
     }
 
     private void endSentence() {
-        if (sentences > 0 && asked == askedBefore) {
+        if (!sentences.isEmpty() && asked == askedBefore) {
             fault("nothing was asked for it");
         }
     }
 
     /** Without its folds and its marks of code blocks; where it is not, only the words go unchecked. */
     private void readDocument() {
-        if (sentences > 1) {
-            return;
-        }
         try {
             document = Files.readString(DOCUMENT).replaceAll("```\\w*", " ").replaceAll("\\s+", " ");
             documentIsThere = true;
@@ -95,7 +96,7 @@ final class Check {
 
     void end() {
         endSentence();
-        String of = sentences > 0 ? " for " + sentences + " sentences" : "";
+        String of = sentences.isEmpty() ? "" : " for " + sentences.size() + " sentences";
         System.out.println(name + ": " + asked + " asked" + of + ", " + faults + " not as due");
         if (faults > 0 || asked == 0) {
             System.exit(1);
@@ -104,6 +105,6 @@ final class Check {
 
     private void fault(String text) {
         faults++;
-        System.out.println(name + ": " + (sentences > 0 ? "\"" + words + "\": " : "") + text);
+        System.out.println(name + ": " + (sentences.isEmpty() ? "" : "\"" + words + "\": ") + text);
     }
 }

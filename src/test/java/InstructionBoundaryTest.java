@@ -11,6 +11,9 @@ public final class InstructionBoundaryTest {
         Check check = new Check("InstructionBoundaryTest");
         nothingAtFirst(check);
         registers(check);
+        simpleOnes(check);
+        tableOnes(check);
+        returning(check);
         onePlaceMore(check);
         yieldAndReturnAtTheEnd(check);
         nothingIsWrong(check);
@@ -68,6 +71,50 @@ public final class InstructionBoundaryTest {
             check.same("b " + x[0], 100 + x[1], after(op(2, 0, x[0], 0)).inside(0, 0, false));
             check.same("c " + x[0], 200 + x[1], after(op(8, 0, 0, x[0])).inside(0, 0, false));
         }
+    }
+
+    private static void simpleOnes(Check check) {
+        check.sentence("0 A is NIL. 1 A is the NUMBER n. 2 A is B.");
+        for (int a = 0; a < 4; a++) {
+            check.same("nil in " + a, Told.NIL, after(op(0, a, 0, 0)).inside(0, a, false));
+            for (int n : new int[] {Told.MIN, -1, 0, Told.MAX}) {
+                check.same("number in " + a, n, after(op(1, a, 0, n)).inside(0, a, false));
+            }
+            for (int b = 0; b < 4; b++) {
+                TriColourMachine m = after(op(2, a, b, 0));
+                check.same(a + " from " + b, 100 + b, m.inside(0, a, false));
+                check.same(b + " stays", 100 + b, m.inside(0, b, false));
+            }
+        }
+    }
+
+    private static void tableOnes(Check check) {
+        check.sentence("5 A is a NEW TABLE. 6 A is what GETTING the KEY C of B gives. 7 SETTING the KEY B of A to C.");
+        TriColourMachine m = Told.machine(op(5, 1, 0, 0), op(18, 1, 0, 0), op(7, 0, 1, 2), op(18, 0, 0, 0));
+        check.same("the least free number", Told.object(1), m.resume(0, 2, 3));
+        check.same("an empty table", 0, m.object(1, 2));
+        check.same("without a meta", -1, m.object(1, 3));
+        // One REGISTER for all: the TABLE is its own KEY and VALUE, and then A is what it gives.
+        TriColourMachine own = Told.machine(op(5, 1, 0, 0), op(7, 1, 1, 1), op(6, 1, 1, 1), op(19, 1, 0, 0));
+        check.same("itself", Told.object(1), own.resume(0, 2, 3));
+        check.same("one pair", 1, own.object(1, 2));
+        TriColourMachine none = Told.machine(op(5, 1, 0, 0), op(6, 1, 1, 1), op(19, 1, 0, 0));
+        check.same("of an empty one", Told.NIL, none.resume(0, 2, 3));
+    }
+
+    private static void returning(Check check) {
+        check.sentence("19 RETURN A: it is DEAD, the VALUE goes out.");
+        for (int[] x : MODULO_4) {
+            TriColourMachine m = Told.machine(op(1, 0, 0, 100), op(1, 1, 0, 101), op(1, 2, 0, 102),
+                op(1, 3, 0, 103), op(19, x[0], 0, 0), op(19, 0, 0, 0));
+            check.same("out of " + x[0], 100 + x[1], m.resume(0, 1, 2));
+            check.same("dead", 3, m.object(0, 3));
+            check.refused("no more", Check.WRONG, m, () -> m.resume(0, 1, 2));
+        }
+        TriColourMachine nil = Told.machine(op(19, 3, 0, 0));
+        nil.number(2, 5);
+        check.same("nil goes out", Told.NIL, nil.resume(0, 2, 2));
+        check.same("and is the outcome", Told.NIL, nil.global(2));
     }
 
     /** The row at 15, with 5 in REGISTER 0, a TABLE in 1, a COROUTINE in 2 and NIL in 3. */

@@ -10,6 +10,7 @@ public final class ResumeBoundaryTest {
         active(check);
         firstIn(check);
         laterIn(check);
+        untilItEnds(check);
         fiveAndSix(check);
         sixthOfEachState(check);
         oneAfterAnother(check);
@@ -129,6 +130,28 @@ public final class ResumeBoundaryTest {
         inner.resume(0, 1, 2);
         check.same("the inner one's first", 7, inner.inside(1, 0, false));
         check.same("the inner one's second", 8, inner.inside(1, 3, false));
+    }
+
+    private static void untilItEnds(Check check) {
+        check.sentence("It is ACTIVE, and does INSTRUCTIONS until it YIELDS or RETURNS, or there is TROUBLE "
+            + "(WRONG, TOO DEEP, NO ROOM).");
+        // What stands behind the end is not done: it would put 9 into GLOBAL 3.
+        int[][] ends = {op(18, 0, 0, 0), op(19, 0, 0, 0), op(8, 0, 3, 3)};
+        int[] states = {1, 3, 3};
+        for (int i = 0; i < 3; i++) {
+            TriColourMachine m = Told.machine(op(1, 1, 0, 9), ends[i], op(4, 1, 0, 3));
+            if (i == 2) {
+                check.throwsA("trouble", Check.WRONG, () -> m.resume(0, 1, 2));
+            } else {
+                m.resume(0, 1, 2);
+            }
+            check.same("begun with " + ends[i][0], 2, m.count(5));
+            check.same("state after " + ends[i][0], states[i], m.object(0, 3));
+            check.same("nothing behind " + ends[i][0], Told.NIL, m.global(3));
+        }
+        TriColourMachine at = Told.machine(op(18, 0, 0, 0));
+        check.same("the first may be the end", Told.NIL, at.resume(0, 1, 2));
+        check.same("one was begun", 1, at.count(5));
     }
 
     private static void fiveAndSix(Check check) {

@@ -6,7 +6,11 @@ public final class TableBoundaryTest {
 
     public static void main(String[] args) {
         Check check = new Check("TableBoundaryTest");
+        numbersAreInts(check);
         told(check);
+        sixteenObjects(check);
+        sixGlobals(check);
+        whatItHas(check);
         alike(check);
         atMostSix(check);
         metaAtFirst(check);
@@ -26,6 +30,25 @@ public final class TableBoundaryTest {
         check.end();
     }
 
+    private static void numbersAreInts(Check check) {
+        check.sentence("VALUES: NIL, a NUMBER (an int), or an OBJECT.");
+        TriColourMachine m = new TriColourMachine();
+        // The least and the most are NUMBERS like others: KEYS, VALUES, and fit to calculate with.
+        Told.program(m, 0, Told.op(18, 1, 0, 0), Told.op(8, 2, 0, 1), Told.op(19, 2, 0, 0));
+        m.number(1, Told.MIN);
+        m.number(2, Told.MAX);
+        m.make(0, 0);
+        m.resume(0, 1, 5);
+        check.same("the least and the most", -1, m.resume(0, 2, 5));
+        m.make(0, -1);
+        m.set(0, 1, 2);
+        m.set(0, 2, 1);
+        check.same("the least as a key", Told.MAX, m.get(0, 1, 5));
+        check.same("the most as a key", Told.MIN, m.get(0, 2, 5));
+        check.throwsA("a number is no table", Check.WRONG, () -> m.set(2, 1, 1));
+        check.throwsA("a number is no coroutine", Check.WRONG, () -> m.resume(2, 1, 1));
+    }
+
     private static void told(Check check) {
         check.sentence("They are told as a long: a NUMBER as itself, NIL as -1000000000000, "
             + "an OBJECT as 10000000000 plus its number.");
@@ -38,6 +61,54 @@ public final class TableBoundaryTest {
         for (int n = 0; n < 16; n++) {
             m.make(0, n % 2 - 1);
             check.same("object " + n, 10000000000L + n, m.global(0));
+        }
+    }
+
+    private static void sixteenObjects(Check check) {
+        check.sentence("OBJECTS 0 .. 15 are free or there: a TABLE, or a COROUTINE.");
+        TriColourMachine m = new TriColourMachine();
+        for (int there = 0; there <= 16; there++) {
+            for (int n = 0; n < 16; n++) {
+                check.same(n + " of " + there, n < there ? n % 2 + 1 : 0, m.object(n, 0));
+            }
+            if (there < 16) {
+                m.make(0, there % 2 - 1);
+            }
+        }
+        check.same("sixteen", 16, m.count(0));
+        check.refused("no 16", Check.BAD, m, () -> m.object(16, 0));
+        check.refused("no -1", Check.BAD, m, () -> m.object(-1, 0));
+    }
+
+    private static void sixGlobals(Check check) {
+        check.sentence("GLOBALS 0 .. 5 are VALUES, NIL at first.");
+        TriColourMachine m = new TriColourMachine();
+        for (int g = 0; g < 6; g++) {
+            check.same("nil " + g, Told.NIL, m.global(g));
+        }
+        for (int g = 0; g < 6; g++) {
+            m.make(g, -1);
+        }
+        for (int g = 0; g < 6; g++) {
+            check.same("each its own " + g, Told.object(g), m.global(g));
+        }
+        check.refused("no 6", Check.BAD, m, () -> m.global(6));
+        check.refused("no -1", Check.BAD, m, () -> m.global(-1));
+    }
+
+    private static void whatItHas(Check check) {
+        check.sentence("GETTING a KEY of a TABLE: if it has it, the VALUE;");
+        // A ring of one: what it has itself is never looked for further on.
+        TriColourMachine m = new TriColourMachine();
+        m.make(0, -1);
+        Told.link(m, 0, 0, 0);
+        m.meta(0, 0);
+        for (int k = 1; k < 6; k++) {
+            Told.put(m, 0, k, 10 * k);
+        }
+        for (int k = 0; k < 6; k++) {
+            m.number(4, k);
+            check.same("key " + k + " of six", k == 0 ? Told.object(0) : 10 * k, m.get(0, 4, 5));
         }
     }
 
