@@ -8,7 +8,9 @@ import java.util.function.LongSupplier;
  */
 public final class AgainstModelTest {
     private static final int RUNS = 600;
-    private static final int CALLS = 400;
+
+    /** As many as the document allows an object; what is looked at between them comes on top. */
+    private static final int CALLS = 512;
     private static final int[] ODD = {-1, 6, 16, 4, 22, -2, 101, Told.MIN, Told.MAX};
 
     private final Check check;
@@ -66,7 +68,7 @@ public final class AgainstModelTest {
         for (int i = 0; i < 4; i++) {
             function(i);
         }
-        for (int call = 0; call < CALLS && same; call++) {
+        for (int call = calls.size(); call < CALLS && same; call++) {
             int fulls = model.fulls;
             boolean resumed = one(seen);
             if (resumed && model.fulls > fulls) {
